@@ -1805,6 +1805,8 @@ public final class TrustDesk {
         private final int[] members = new int[MOST_GROUPED];
         private final int[] common = new int[MOST_GROUPED];
         private final long[] together = new long[MOST_GROUPED];
+        private final long[] needsFrom = new long[MOST_GROUPED + 1];
+        private long leastOfAll;
 
         void clear(int marksToKeep) {
             keep = marksToKeep;
@@ -1847,6 +1849,17 @@ public final class TrustDesk {
         }
 
         void search() {
+            long all = 0;
+            long needs = 0;
+            needsFrom[MOST_GROUPED] = 0;
+            for (int i = MOST_GROUPED - 1; i >= 0; i--) {
+                if (i < size) {
+                    all += spare[i];
+                    needs += Math.max(0, -spare[i]);
+                }
+                needsFrom[i] = needs;
+            }
+            leastOfAll = Math.max(0, all);
             spread(0, 0);
         }
 
@@ -1855,8 +1868,16 @@ public final class TrustDesk {
          * the first one on, so of like groupings the first one is met first and stays the best.
          */
         private void spread(int at, int used) {
-            if (at < 0 || at >= size || at >= MOST_GROUPED) {
-                weigh(used);
+            if (at < 0 || at > MOST_GROUPED) {
+                return;
+            }
+            // only needs still to come can make less what is idle so far
+            long least = Math.max(leastOfAll, idleOf(used) - needsFrom[at]);
+            if (bestGroups != 0 && (least > bestIdle || least == bestIdle && used >= bestGroups)) {
+                return;
+            }
+            if (at >= size || at == MOST_GROUPED) {
+                keepAsBest(least, used);
                 return;
             }
             for (int group = 0; group <= used && group < MOST_GROUPED; group++) {
@@ -1869,6 +1890,14 @@ public final class TrustDesk {
                 members[group]--;
                 together[group] -= spare[at];
                 common[group] = before;
+            }
+        }
+
+        private void keepAsBest(long idle, int used) {
+            bestIdle = idle;
+            bestGroups = used;
+            for (int i = 0; i < size && i < MOST_GROUPED; i++) {
+                bestOf[i] = groups[i];
             }
         }
 
@@ -1892,18 +1921,6 @@ public final class TrustDesk {
                 idle += Math.max(0, together[i]);
             }
             return idle;
-        }
-
-        private void weigh(int used) {
-            long idle = idleOf(used);
-            if (bestGroups != 0 && (idle > bestIdle || idle == bestIdle && used >= bestGroups)) {
-                return;
-            }
-            bestIdle = idle;
-            bestGroups = used;
-            for (int i = 0; i < size && i < MOST_GROUPED; i++) {
-                bestOf[i] = groups[i];
-            }
         }
     }
 }
