@@ -265,10 +265,20 @@ public final class FactsAndTextsTest {
         Check.faultyDeed("end a pays 1 if 1=1 or 2;", 1, 24);
         Check.faultyDeed("end a pays 1 if 1<2<3;", 1, 19);
         Check.faultyDeed("mark 9;mark", 2, 5);
+        Check.faultyDeed("end a pays 2*foo if 1=1;", 3, 13);
+        Check.faultyDeed("end a pays 2*12345 if 1=1;", 1, 13);
+        Check.faultyDeed("end a pays 2-foo if 1=1;", 3, 13);
+        Check.faultyDeed("end a pays (((1*(foo)))) if 1=1;", 3, 17);
+        Check.faultyDeed("end a pays 1 if not [1=foo];", 3, 23);
+        Check.faultyDeed("end a pays 1 if 1=1 and foo=1;", 3, 24);
         TrustDesk x = new TrustDesk();
         Check.same("blanks of both sorts", Check.fund(x, 1, 1, "\n mark\n1\n;\n "), 0);
         Check.same("a name of eight letters", Check.fund(x, 1, 1, "end abcdefgh pays 1 if 1=1;"), 1);
         Check.same("eight", x.endOf(1, 0, 3), 8);
+        TrustDesk least = new TrustDesk();
+        Check.same("the least numbers", Check.fund(least, 0, 0, "mark 1 0;trust 1 1;"), 0);
+        Check.same("marks 0 and 1", least.fundOf(0, 2), 3);
+        Check.same("trust of one", least.fundOf(0, 8), 1);
         Check.same("names alike but for the length", Check.fund(x, 1, 1,
                 "end a pays 1 if 1=1;end aa pays 1 if 1=1;end z pays 1 if 1=1;"), 2);
         Check.same("a fault", Check.fund(x, 1, 1, "mark 8;"), -3);
@@ -284,6 +294,7 @@ public final class FactsAndTextsTest {
     private static void numbersThatCantBe() {
         Check.faultyDeed("mark 8;", 2, 5);
         Check.faultyDeed("mark 0 1 9999;", 2, 9);
+        Check.faultyDeed("mark 1 8;", 2, 7);
         Check.faultyDeed("trust 0 0;", 2, 6);
         Check.faultyDeed("trust 8 1;", 2, 6);
         Check.faultyDeed("trust 7 0;", 2, 8);

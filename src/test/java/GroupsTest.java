@@ -173,6 +173,10 @@ public final class GroupsTest {
         Check.same("dead ones are no need", x.group(1), 102);
         x.fact(0, 1, 1);
         Check.same("of the year at hand", x.group(1), 102 - 10);
+        TrustDesk y = new TrustDesk();
+        Check.fund(y, 0, 70, "mark 1;end a pays income-coin-60 if coin=0 and income=70;");
+        Check.fund(y, 0, 50, "mark 1;end a pays income if income=50;");
+        Check.same("by income and coin of each", y.group(3), 120 - 10 - 50);
     }
 
     private static void groupsOfNone() {
@@ -336,5 +340,9 @@ public final class GroupsTest {
         }
         Check.same("what above", x.count(12), -1);
         Check.same("what below", x.count(-1), -1);
+        Check.same("one fund alone", Check.fund(new TrustDesk(), 0, 0, ""), 0);
+        TrustDesk y = new TrustDesk();
+        y.fund(0, 0);
+        Check.same("not joined", y.count(11), 1);
     }
 }

@@ -227,6 +227,28 @@ public final class YearsTest {
         Check.same("half", y.part(1, 2), 500000);
         Check.same("told as they were", y.part(0, 0), 1000000);
         remainders();
+        remaindersPassOneWithoutPart();
+    }
+
+    private static void remaindersPassOneWithoutPart() {
+        TrustDesk x = new TrustDesk();
+        Check.act(x, 0, "days 1;keep 0;");
+        Check.fund(x, 0, 0, "");
+        Check.fund(x, 0, 1, "");
+        Check.fund(x, 0, 2, "end b pays 5 if 1=1 part;");
+        x.trustee(1, 9);
+        x.trustee(2, 9);
+        x.propose(1, 1, 2);
+        x.vote(0, 9, true);
+        x.days(2);
+        Check.same("joined", x.settle(0), 0);
+        Check.same("no part", x.part(2, 0), 0);
+        Check.same("left over to the least that has some", x.part(2, 1), 333334);
+        Check.same("two thirds", x.part(2, 2), 666666);
+        x.days(358);
+        Check.same("nothing without a part", x.paid(0), 0);
+        Check.same("the one left over", x.paid(1), 2);
+        Check.same("its share", x.paid(2), 1);
     }
 
     private static void remainders() {
@@ -342,6 +364,10 @@ public final class YearsTest {
         Check.same("day above", x.why(0, 0, 0, 1), -1);
         Check.fund(x, 0, 0, "end a pays 1 if 1=1" + " and 1=1".repeat(40) + " or 1=2;");
         Check.same("number 41", x.why(1, 0, 0, 0), 41);
+        Check.fund(x, 0, 9, "end a pays 1 if 1=1 and income=9 and coin=0;");
+        Check.same("by income and coin", x.why(2, 0, 0, 0), -1);
+        x.days(360);
+        Check.same("coin as it is now", x.why(2, 0, 0, 0), 2);
     }
 
     private static void conditions() {
