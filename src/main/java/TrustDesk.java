@@ -33,7 +33,9 @@ public final class TrustDesk {
     private static final int MOST_ACRES = 999;
     private static final int MOST_STOCK = 99999;
     private static final int MOST_NEARS = 12;
+    private static final int MOST_MARK = 7;
     private static final int ALL_MARKS = 255;
+    private static final int MOST_TRUSTEES = 7;
     private static final int MOST_SCHEMES = 40;
     private static final int MOST_OBJECTIONS = 10;
     private static final int MOST_ENTRIES = 600;
@@ -41,8 +43,7 @@ public final class TrustDesk {
     private static final int MOST_ACCOUNTS = 200;
     private static final int MOST_GROUPED = 8;
 
-    private static final String DEED_NAMES = "poor maids boys sick bread coal rent lake income coin";
-    private static final String ACT_NAMES =
+    private static final String NAME_WORDS =
             "poor maids boys sick bread coal rent lake income coin living dead marks";
     private static final int FACT_KINDS = 8;
     private static final int RENT = 6;
@@ -51,24 +52,26 @@ public final class TrustDesk {
     private static final int LIVING_ENDS = 10;
     private static final int DEAD_ENDS = 11;
     private static final int MARKS = 12;
+    private static final int DEED_NAMES = 10;
+    private static final int ACT_NAMES = 13;
     private static final int NAMES = 13;
 
-    private static final String RULE_WORDS = "fail keep days late gain sell";
     private static final int FAIL = 0;
     private static final int KEEP = 1;
     private static final int DAYS = 2;
     private static final int LATE = 3;
     private static final int GAIN = 4;
     private static final int SELL = 5;
+    private static final int RULES = 6;
     private static final int[] RULE_WITHOUT = {3, 1, 30, 90, 0, 20};
     private static final int[] RULE_LEAST = {1, 0, 1, 1, 0, 1};
     private static final int[] RULE_MOST = {50, 8, 360, 720, 20, 40};
 
-    private static final String KIND_WORDS = "near join sale strike";
     private static final int NEAR = 0;
     private static final int JOIN = 1;
     private static final int SALE = 2;
     private static final int STRIKE = 3;
+    private static final int KINDS = 4;
 
     private static final int OPEN = 0;
     private static final int MADE = 1;
@@ -828,7 +831,6 @@ public final class TrustDesk {
         return best;
     }
 
-
     private static boolean isFact(int which) {
         return which >= 0 && which < FACT_KINDS;
     }
@@ -1116,7 +1118,7 @@ public final class TrustDesk {
         int stock;
         long coin;
         int marks;
-        int trustMost = 7;
+        int trustMost = MOST_TRUSTEES;
         int trustNeeds = 1;
         int trusteeCount;
         int joinedTo = NONE;
@@ -1154,6 +1156,15 @@ public final class TrustDesk {
 
         End endAt(int at) {
             return at >= 0 && at < ends.size() ? ends.get(at) : null;
+        }
+
+        boolean hasEnd(long name) {
+            for (int i = 0; i < ends.size(); i++) {
+                if (ends.get(i).text.name == name) {
+                    return true;
+                }
+            }
+            return false;
         }
 
         End firstDead() {
@@ -1319,7 +1330,7 @@ public final class TrustDesk {
         }
     }
 
-    /** The tape, and the reading of it: one token at a time, up to the first fault. */
+    /** The tape, and the reading of it: cut into tokens, then read up to the first fault. */
     static final class Reader {
         private static final int TEXT_END = 0;
         private static final int WORD = 1;
@@ -1327,15 +1338,39 @@ public final class TrustDesk {
         private static final int SIGN = 3;
         private static final int BLANK = 4;
 
+        /** A word is known by its place among the names of a sum and, behind these, the words of texts. */
+        private static final String TEXT_WORDS =
+                "fail keep days late gain sell near join sale strike bar mark trust end pays if part not and or";
+        private static final int FIRST_RULE = NAMES;
+        private static final int FIRST_KIND = FIRST_RULE + RULES;
+        private static final int BAR_WORD = FIRST_KIND + KINDS;
+        private static final int MARK_WORD = BAR_WORD + 1;
+        private static final int TRUST_WORD = BAR_WORD + 2;
+        private static final int END_WORD = BAR_WORD + 3;
+        private static final int PAYS_WORD = BAR_WORD + 4;
+        private static final int IF_WORD = BAR_WORD + 5;
+        private static final int PART_WORD = BAR_WORD + 6;
+        private static final int NOT_WORD = BAR_WORD + 7;
+        private static final int AND_WORD = BAR_WORD + 8;
+        private static final int OR_WORD = BAR_WORD + 9;
+
         int size;
         int fault;
         int faultPlace = NONE;
         private final int[] bytes = new int[MOST_BYTES];
+        private final int[] kinds = new int[MOST_BYTES];
+        private final int[] starts = new int[MOST_BYTES];
+        private final int[] stops = new int[MOST_BYTES];
+        /** Of a word its place, of figures their number, of a sign its byte; NONE for what means nothing. */
+        private final int[] values = new int[MOST_BYTES];
+        private int tokenCount;
+        private int at;
         private int kind;
         private int start;
-        private int next;
+        private int stop;
+        private int value;
         private int number;
-        private String names = DEED_NAMES;
+        private int nameCount;
         private int open;
         private final int[] steps = new int[MOST_BYTES];
         private int stepCount;
@@ -1372,7 +1407,7 @@ public final class TrustDesk {
         /** Null with a fault. */
         EndText readNearEnd() {
             begin(DEED_NAMES);
-            if (!is("end")) {
+            if (!isWord(END_WORD)) {
                 refuse(NO_TEXT);
                 return null;
             }
@@ -1387,20 +1422,21 @@ public final class TrustDesk {
             return text;
         }
 
-        private void begin(String allowedNames) {
-            names = allowedNames;
+        private void begin(int namesAllowed) {
+            nameCount = namesAllowed;
             fault = 0;
             faultPlace = NONE;
             open = 0;
-            next = 0;
+            cut();
+            at = NONE;
             advance();
         }
 
         // ---- rules and clauses
 
         private boolean rule(Act act) {
-            int which = indexIn(RULE_WORDS);
-            boolean bars = is("bar");
+            int which = valueAmong(FIRST_RULE, RULES);
+            boolean bars = isWord(BAR_WORD);
             if (which == NONE && !bars) {
                 return refuse(NO_TEXT);
             }
@@ -1422,13 +1458,13 @@ public final class TrustDesk {
         }
 
         private boolean bar(Act act) {
-            int barred = indexIn(KIND_WORDS);
+            int barred = valueAmong(FIRST_KIND, KINDS);
             if (barred == NONE) {
                 return refuse(NO_TEXT);
             }
             advance();
             stepCount = 0;
-            if (!word("if") || !condition()) {
+            if (!word(IF_WORD) || !condition()) {
                 return false;
             }
             act.addBar(barred, stepsTaken());
@@ -1436,9 +1472,9 @@ public final class TrustDesk {
         }
 
         private boolean clause(Fund fund, int before) {
-            boolean ends = is("end");
-            boolean marks = is("mark");
-            if (!ends && !marks && !is("trust")) {
+            boolean ends = isWord(END_WORD);
+            boolean marks = isWord(MARK_WORD);
+            if (!ends && !marks && !isWord(TRUST_WORD)) {
                 return refuse(NO_TEXT);
             }
             if (before >= MOST_CLAUSES || ends && fund.ends.size() >= MOST_DEED_ENDS) {
@@ -1458,12 +1494,12 @@ public final class TrustDesk {
 
         private boolean markClause(Fund fund) {
             advance();
-            if (!numeral(0, 7)) {
+            if (!numeral(0, MOST_MARK)) {
                 return false;
             }
             fund.marks |= 1 << number;
             for (int i = 0; i < MOST_BYTES && kind == FIGURES; i++) {
-                if (!numeral(0, 7)) {
+                if (!numeral(0, MOST_MARK)) {
                     return false;
                 }
                 fund.marks |= 1 << number;
@@ -1473,7 +1509,7 @@ public final class TrustDesk {
 
         private boolean trustClause(Fund fund) {
             advance();
-            if (!numeral(1, 7)) {
+            if (!numeral(1, MOST_TRUSTEES)) {
                 return false;
             }
             int most = number;
@@ -1488,40 +1524,40 @@ public final class TrustDesk {
         /** An end's clause without its last sign, for a fund or (null) for a near end; null with a fault. */
         private EndText endText(Fund fund) {
             advance();
-            int letters = next - start;
-            long name = wordAsNumber();
+            int letters = stop - start;
             if (kind != WORD || letters > MOST_LETTERS) {
                 refuse(NO_TEXT);
                 return null;
             }
-            if (fund != null && hasEnd(fund, name)) {
+            long name = wordAsNumber();
+            if (fund != null && fund.hasEnd(name)) {
                 refuse(NO_NAME);
                 return null;
             }
             advance();
             stepCount = 0;
-            if (!word("pays") || !sum()) {
+            if (!word(PAYS_WORD) || !sum()) {
                 return null;
             }
             Code asked = stepsTaken();
             stepCount = 0;
-            if (!word("if") || !condition()) {
+            if (!word(IF_WORD) || !condition()) {
                 return null;
             }
-            boolean takesPart = is("part");
+            boolean takesPart = isWord(PART_WORD);
             if (takesPart) {
                 advance();
             }
             return new EndText(name, letters, asked, stepsTaken(), takesPart);
         }
 
-        private static boolean hasEnd(Fund fund, long name) {
-            for (int i = 0; i < fund.ends.size(); i++) {
-                if (fund.ends.get(i).text.name == name) {
-                    return true;
-                }
+        /** Eight letters of five bits each fit a number, so names are compared as such. */
+        private long wordAsNumber() {
+            long name = 0;
+            for (int i = start; i >= 0 && i < stop && i < MOST_BYTES; i++) {
+                name = name * 32 + bytes[i] - 'a' + 1;
             }
-            return false;
+            return name;
         }
 
         // ---- conditions and sums, whose brackets are counted: so the recursion ends
@@ -1530,7 +1566,7 @@ public final class TrustDesk {
             if (!both()) {
                 return false;
             }
-            for (int i = 0; i < MOST_BYTES && is("or"); i++) {
+            for (int i = 0; i < MOST_BYTES && isWord(OR_WORD); i++) {
                 advance();
                 if (!both()) {
                     return false;
@@ -1544,7 +1580,7 @@ public final class TrustDesk {
             if (!term()) {
                 return false;
             }
-            for (int i = 0; i < MOST_BYTES && is("and"); i++) {
+            for (int i = 0; i < MOST_BYTES && isWord(AND_WORD); i++) {
                 advance();
                 if (!term()) {
                     return false;
@@ -1556,27 +1592,20 @@ public final class TrustDesk {
 
         private boolean term() {
             boolean turned = false;
-            for (int i = 0; i < MOST_BYTES && is("not"); i++) {
+            for (int i = 0; i < MOST_BYTES && isWord(NOT_WORD); i++) {
                 advance();
                 turned = !turned;
             }
             if (isSign('[')) {
-                if (!openBracket() || !condition() || !closeBracket(']')) {
+                if (!openBracket() || !condition()) {
                     return false;
                 }
-            } else {
-                if (!sum()) {
+                open--;
+                if (!sign(']')) {
                     return false;
                 }
-                int compares = comparisonHere();
-                if (compares == NONE) {
-                    return refuse(NO_TEXT);
-                }
-                advance();
-                if (!sum()) {
-                    return false;
-                }
-                emit(compares, 0);
+            } else if (!comparison()) {
+                return false;
             }
             if (turned) {
                 emit(Code.NOT, 0);
@@ -1584,14 +1613,20 @@ public final class TrustDesk {
             return true;
         }
 
-        private int comparisonHere() {
-            if (isSign('<')) {
-                return Code.LESS;
+        private boolean comparison() {
+            if (!sum()) {
+                return false;
             }
-            if (isSign('>')) {
-                return Code.MORE;
+            int compares = isSign('<') ? Code.LESS : isSign('>') ? Code.MORE : isSign('=') ? Code.SAME : NONE;
+            if (compares == NONE) {
+                return refuse(NO_TEXT);
             }
-            return isSign('=') ? Code.SAME : NONE;
+            advance();
+            if (!sum()) {
+                return false;
+            }
+            emit(compares, 0);
+            return true;
         }
 
         private boolean sum() {
@@ -1632,7 +1667,7 @@ public final class TrustDesk {
                 return true;
             }
             if (kind == WORD) {
-                int name = indexIn(names);
+                int name = valueAmong(0, nameCount);
                 if (name == NONE) {
                     return refuse(NO_NAME);
                 }
@@ -1643,7 +1678,11 @@ public final class TrustDesk {
             if (!isSign('(')) {
                 return refuse(NO_TEXT);
             }
-            return openBracket() && sum() && closeBracket(')');
+            if (!openBracket() || !sum()) {
+                return false;
+            }
+            open--;
+            return sign(')');
         }
 
         private boolean openBracket() {
@@ -1653,11 +1692,6 @@ public final class TrustDesk {
             open++;
             advance();
             return true;
-        }
-
-        private boolean closeBracket(char bracket) {
-            open--;
-            return sign(bracket);
         }
 
         private void emit(int kindOfStep, int operand) {
@@ -1672,7 +1706,7 @@ public final class TrustDesk {
             return new Code(Arrays.copyOf(steps, length));
         }
 
-        // ---- tokens
+        // ---- the token at hand
 
         private boolean refuse(int kindOfFault) {
             fault = kindOfFault;
@@ -1681,22 +1715,19 @@ public final class TrustDesk {
         }
 
         private boolean numeral(int least, int most) {
-            if (kind != FIGURES || next - start > MOST_FIGURES) {
+            if (kind != FIGURES || value == NONE) {
                 return refuse(NO_TEXT);
             }
-            number = 0;
-            for (int i = start; i < next; i++) {
-                number = number * 10 + byteAt(i) - '0';
-            }
-            if (number < least || number > most) {
+            if (value < least || value > most) {
                 return refuse(NO_NUMBER);
             }
+            number = value;
             advance();
             return true;
         }
 
-        private boolean word(String wanted) {
-            if (!is(wanted)) {
+        private boolean word(int wanted) {
+            if (!isWord(wanted)) {
                 return refuse(NO_TEXT);
             }
             advance();
@@ -1711,72 +1742,106 @@ public final class TrustDesk {
             return true;
         }
 
+        private boolean isWord(int wanted) {
+            return kind == WORD && value == wanted;
+        }
+
         private boolean isSign(char wanted) {
-            return kind == SIGN && byteAt(start) == wanted;
+            return kind == SIGN && value == wanted;
         }
 
-        private boolean is(String wanted) {
-            return isWord(wanted, 0, wanted.length());
+        /** Which of so many words from the first one on stands here; NONE if it is none of them. */
+        private int valueAmong(int first, int count) {
+            return kind == WORD && value >= first && value < first + count ? value - first : NONE;
         }
 
-        /** Which of some words, parted by one blank each, stands here; NONE if it is none of them. */
-        private int indexIn(String words) {
-            int index = 0;
+        /** Behind the last token stands the end of the text. */
+        private void advance() {
+            at++;
+            boolean more = at >= 0 && at < tokenCount && at < MOST_BYTES;
+            kind = more ? kinds[at] : TEXT_END;
+            start = more ? starts[at] : size;
+            stop = more ? stops[at] : size;
+            value = more ? values[at] : NONE;
+        }
+
+        // ---- cutting the tape into tokens
+
+        private void cut() {
+            tokenCount = 0;
             int from = 0;
+            while (from < size) {
+                int sort = sortOf(from);
+                int to = from + 1;
+                while (sort != SIGN && to < size && sortOf(to) == sort) {
+                    to++;
+                }
+                if (sort != BLANK) {
+                    putToken(sort, from, to);
+                }
+                from = to;
+            }
+        }
+
+        private void putToken(int sort, int from, int to) {
+            int place = tokenCount;
+            if (place < 0 || place >= MOST_BYTES) {
+                return;
+            }
+            kinds[place] = sort;
+            starts[place] = from;
+            stops[place] = to;
+            values[place] = sort == WORD ? wordValue(from, to) : sort == FIGURES ? numberValue(from, to) : byteAt(from);
+            tokenCount++;
+        }
+
+        private int wordValue(int from, int to) {
+            int name = indexIn(NAME_WORDS, from, to);
+            if (name != NONE) {
+                return name;
+            }
+            int other = indexIn(TEXT_WORDS, from, to);
+            return other == NONE ? NONE : NAMES + other;
+        }
+
+        private int numberValue(int from, int to) {
+            if (to - from > MOST_FIGURES) {
+                return NONE;
+            }
+            int told = 0;
+            for (int i = from; i < to; i++) {
+                told = told * 10 + byteAt(i) - '0';
+            }
+            return told;
+        }
+
+        /** Which of some words, parted by one blank each, the bytes are; NONE if they are none of them. */
+        private int indexIn(String words, int from, int to) {
+            int index = 0;
+            int first = 0;
             for (int i = 0; i <= words.length(); i++) {
                 if (i == words.length() || words.charAt(i) == ' ') {
-                    if (isWord(words, from, i)) {
+                    if (i - first == to - from && matches(words, first, i, from)) {
                         return index;
                     }
                     index++;
-                    from = i + 1;
+                    first = i + 1;
                 }
             }
             return NONE;
         }
 
-        private boolean isWord(String words, int from, int to) {
-            if (kind != WORD || next - start != to - from || from < 0 || to > words.length()) {
-                return false;
-            }
-            for (int i = from; i < to; i++) {
-                if (words.charAt(i) != byteAt(start + i - from)) {
+        private boolean matches(String words, int first, int last, int from) {
+            for (int i = first; i >= 0 && i < last && i < words.length(); i++) {
+                if (words.charAt(i) != byteAt(from + i - first)) {
                     return false;
                 }
             }
             return true;
         }
 
-        /** Eight letters of five bits each fit a number, so names are compared as such. */
-        private long wordAsNumber() {
-            long name = 0;
-            for (int i = start; i < next; i++) {
-                name = name * 32 + byteAt(i) - 'a' + 1;
-            }
-            return name;
-        }
-
-        private void advance() {
-            int at = next;
-            while (at < size && kindAt(at) == BLANK) {
-                at++;
-            }
-            start = at;
-            kind = kindAt(at);
-            if (at < size) {
-                at++;
-            }
-            while (at < size && kind != SIGN && kindAt(at) == kind) {
-                at++;
-            }
-            next = at;
-        }
-
-        private int kindAt(int at) {
-            if (at < 0 || at >= size || at >= MOST_BYTES) {
-                return TEXT_END;
-            }
-            int one = bytes[at];
+        private int sortOf(int place) {
+            int one = byteAt(place);
             if (one == ' ' || one == '\n') {
                 return BLANK;
             }
@@ -1786,8 +1851,8 @@ public final class TrustDesk {
             return one >= '0' && one <= '9' ? FIGURES : SIGN;
         }
 
-        private int byteAt(int at) {
-            return at >= 0 && at < MOST_BYTES ? bytes[at] : 0;
+        private int byteAt(int place) {
+            return place >= 0 && place < MOST_BYTES ? bytes[place] : 0;
         }
     }
 
