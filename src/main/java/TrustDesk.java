@@ -1604,8 +1604,19 @@ public final class TrustDesk {
                 if (!sign(']')) {
                     return false;
                 }
-            } else if (!comparison()) {
-                return false;
+            } else {
+                if (!sum()) {
+                    return false;
+                }
+                int compares = comparisonHere();
+                if (compares == NONE) {
+                    return refuse(NO_TEXT);
+                }
+                advance();
+                if (!sum()) {
+                    return false;
+                }
+                emit(compares, 0);
             }
             if (turned) {
                 emit(Code.NOT, 0);
@@ -1613,20 +1624,14 @@ public final class TrustDesk {
             return true;
         }
 
-        private boolean comparison() {
-            if (!sum()) {
-                return false;
+        private int comparisonHere() {
+            if (isSign('<')) {
+                return Code.LESS;
             }
-            int compares = isSign('<') ? Code.LESS : isSign('>') ? Code.MORE : isSign('=') ? Code.SAME : NONE;
-            if (compares == NONE) {
-                return refuse(NO_TEXT);
+            if (isSign('>')) {
+                return Code.MORE;
             }
-            advance();
-            if (!sum()) {
-                return false;
-            }
-            emit(compares, 0);
-            return true;
+            return isSign('=') ? Code.SAME : NONE;
         }
 
         private boolean sum() {
@@ -1833,7 +1838,8 @@ public final class TrustDesk {
 
         private boolean matches(String words, int first, int last, int from) {
             for (int i = first; i >= 0 && i < last && i < words.length(); i++) {
-                if (words.charAt(i) != byteAt(from + i - first)) {
+                int place = from + i - first;
+                if (place < 0 || place >= MOST_BYTES || words.charAt(i) != bytes[place]) {
                     return false;
                 }
             }
