@@ -24,25 +24,6 @@ public final class SchemesTest {
         Check.done();
     }
 
-    /** A desk whose schemes wait for one day, with funds of these deeds, whose trustee is person 0. */
-    private static TrustDesk desk(String act, String... deeds) {
-        TrustDesk x = new TrustDesk();
-        Check.act(x, 0, "days 1;" + act);
-        for (int i = 0; i < deeds.length; i++) {
-            Check.fund(x, 10, 100, deeds[i]);
-            x.trustee(i, 0);
-        }
-        return x;
-    }
-
-    /** Proposes, votes yes, lets the days go by, and settles. */
-    private static int carried(TrustDesk desk, int kind, int fund, int subject) {
-        int scheme = desk.propose(kind, fund, subject);
-        desk.vote(scheme, 0, true);
-        desk.days(2);
-        return desk.settle(scheme);
-    }
-
     // promise 12
     private static void trustees() {
         TrustDesk x = new TrustDesk();
@@ -65,7 +46,7 @@ public final class SchemesTest {
 
     // promises 13 and 18
     private static void proposing() {
-        TrustDesk x = desk("", "mark 1;", "mark 1;");
+        TrustDesk x = Check.desk("", "mark 1;", "mark 1;");
         Check.near(x, 1, "end a pays 1 if 1=1;");
         Check.same("no such fund", x.propose(2, 2, 1), -1);
         Check.same("fund below", x.propose(2, -1, 1), -1);
@@ -149,7 +130,7 @@ public final class SchemesTest {
 
     // promise 16
     private static void voting() {
-        TrustDesk x = desk("", "mark 1;", "mark 1;", "mark 1;");
+        TrustDesk x = Check.desk("", "mark 1;", "mark 1;", "mark 1;");
         x.trustee(0, 1);
         x.trustee(1, 2);
         x.trustee(2, 3);
@@ -205,22 +186,22 @@ public final class SchemesTest {
     }
 
     private static void cannotBe() {
-        TrustDesk x = desk("", "mark 1;end a pays 1 if 1=1;", "mark 1;", "mark 1;");
+        TrustDesk x = Check.desk("", "mark 1;end a pays 1 if 1=1;", "mark 1;", "mark 1;");
         Check.near(x, 255, "end n pays 1 if 1=1;");
-        Check.same("no dead end", carried(x, 0, 0, 0), 1);
-        Check.same("both are one", carried(x, 1, 0, 0), 1);
-        Check.same("not so many acres", carried(x, 2, 0, 11), 1);
-        Check.same("no such end", carried(x, 3, 0, 1), 1);
+        Check.same("no dead end", Check.carried(x, 0, 0, 0), 1);
+        Check.same("both are one", Check.carried(x, 1, 0, 0), 1);
+        Check.same("not so many acres", Check.carried(x, 2, 0, 11), 1);
+        Check.same("no such end", Check.carried(x, 3, 0, 1), 1);
         Check.same("failed", x.scheme(3, 5), 2);
         Check.same("by the first", x.scheme(3, 6), 1);
-        Check.same("struck once", carried(x, 3, 0, 0), 0);
-        Check.same("struck already", carried(x, 3, 0, 0), 1);
-        Check.same("joined", carried(x, 1, 1, 2), 0);
-        Check.same("joined already", carried(x, 1, 1, 0), 1);
-        Check.same("the other one is", carried(x, 1, 0, 1), 1);
-        Check.same("sale of a joined one", carried(x, 2, 1, 1), 1);
-        Check.same("near of a joined one", carried(x, 0, 1, 0), 1);
-        Check.same("strike of a joined one", carried(x, 3, 1, 0), 1);
+        Check.same("struck once", Check.carried(x, 3, 0, 0), 0);
+        Check.same("struck already", Check.carried(x, 3, 0, 0), 1);
+        Check.same("joined", Check.carried(x, 1, 1, 2), 0);
+        Check.same("joined already", Check.carried(x, 1, 1, 0), 1);
+        Check.same("the other one is", Check.carried(x, 1, 0, 1), 1);
+        Check.same("sale of a joined one", Check.carried(x, 2, 1, 1), 1);
+        Check.same("near of a joined one", Check.carried(x, 0, 1, 0), 1);
+        Check.same("strike of a joined one", Check.carried(x, 3, 1, 0), 1);
     }
 
     private static void bars() {
@@ -237,15 +218,15 @@ public final class SchemesTest {
         Check.same("as known now", saleUnder("bar sale if poor=6;"), 0);
         Check.same("none holds", saleUnder("bar sale if not [living=2 and dead=1 and marks=3 and income=170 "
                 + "and coin=450 and poor=8];"), 0);
-        TrustDesk x = desk("bar strike if 1=1;bar join if 1=1;bar near if 1=1;fail 1;",
+        TrustDesk x = Check.desk("bar strike if 1=1;bar join if 1=1;bar near if 1=1;fail 1;",
                 "mark 1;end a pays 1 if 1=2;", "mark 1;");
         Check.near(x, 255, "end n pays 1 if 1=1;");
         x.days(360);
-        Check.same("strike", carried(x, 3, 0, 0), 2);
-        Check.same("join", carried(x, 1, 0, 1), 2);
-        Check.same("near", carried(x, 0, 0, 0), 2);
+        Check.same("strike", Check.carried(x, 3, 0, 0), 2);
+        Check.same("join", Check.carried(x, 1, 0, 1), 2);
+        Check.same("near", Check.carried(x, 0, 0, 0), 2);
         Check.act(x, 366, "");
-        Check.same("by the act of the day at hand", carried(x, 3, 0, 0), -1);
+        Check.same("by the act of the day at hand", Check.carried(x, 3, 0, 0), -1);
         x.days(30);
         Check.same("which has no bars", x.settle(3), 0);
     }
@@ -269,23 +250,23 @@ public final class SchemesTest {
     }
 
     private static void marksLeft() {
-        TrustDesk x = desk("keep 2;fail 1;", "mark 0 1 2;end a pays 1 if 1=2;", "mark 1 2 3;", "mark 2 3;", "mark 1;");
+        TrustDesk x = Check.desk("keep 2;fail 1;", "mark 0 1 2;end a pays 1 if 1=2;", "mark 1 2 3;", "mark 2 3;", "mark 1;");
         Check.near(x, 5, "end n pays 1 if 1=1;");
         Check.near(x, 1 + 8, "end n pays 1 if 1=1;");
         x.days(360);
-        Check.same("near with one mark", carried(x, 0, 0, 1), 3);
-        Check.same("near with two", carried(x, 0, 0, 0), 0);
-        Check.same("join with one", carried(x, 1, 0, 1), 3);
-        Check.same("join with two", carried(x, 1, 1, 2), 0);
-        Check.same("sale of one with two marks", carried(x, 2, 0, 1), 0);
-        Check.same("sale of one with one mark", carried(x, 2, 3, 1), 3);
-        TrustDesk y = desk("keep 0;", "", "");
-        Check.same("keep 0: sale", carried(y, 2, 0, 1), 0);
-        Check.same("keep 0: join", carried(y, 1, 0, 1), 0);
+        Check.same("near with one mark", Check.carried(x, 0, 0, 1), 3);
+        Check.same("near with two", Check.carried(x, 0, 0, 0), 0);
+        Check.same("join with one", Check.carried(x, 1, 0, 1), 3);
+        Check.same("join with two", Check.carried(x, 1, 1, 2), 0);
+        Check.same("sale of one with two marks", Check.carried(x, 2, 0, 1), 0);
+        Check.same("sale of one with one mark", Check.carried(x, 2, 3, 1), 3);
+        TrustDesk y = Check.desk("keep 0;", "", "");
+        Check.same("keep 0: sale", Check.carried(y, 2, 0, 1), 0);
+        Check.same("keep 0: join", Check.carried(y, 1, 0, 1), 0);
     }
 
     private static void votesNeeded() {
-        TrustDesk x = desk("", "mark 1;trust 3 2;", "mark 1;trust 3 2;");
+        TrustDesk x = Check.desk("", "mark 1;trust 3 2;", "mark 1;trust 3 2;");
         x.trustee(0, 1);
         x.trustee(0, 2);
         x.trustee(1, 1);
@@ -317,7 +298,7 @@ public final class SchemesTest {
     }
 
     private static void objectionsStand() {
-        TrustDesk x = desk("", "mark 1;");
+        TrustDesk x = Check.desk("", "mark 1;");
         int one = x.propose(2, 0, 1);
         int two = x.propose(2, 0, 1);
         x.vote(one, 0, true);
@@ -333,9 +314,9 @@ public final class SchemesTest {
     }
 
     private static void orderOfReasons() {
-        TrustDesk x = desk("keep 2;bar sale if acres=1;", "");
+        TrustDesk x = Check.desk("keep 2;bar sale if acres=1;", "");
         Check.same("such a word is no name", x.count(3), 0);
-        TrustDesk y = desk("keep 2;bar sale if poor=1;", "mark 1;");
+        TrustDesk y = Check.desk("keep 2;bar sale if poor=1;", "mark 1;");
         int[] all = new int[4];
         for (int i = 0; i < 4; i++) {
             all[i] = y.propose(2, 0, i == 0 ? 11 : 1);
@@ -352,11 +333,11 @@ public final class SchemesTest {
     }
 
     private static void nearMade() {
-        TrustDesk x = desk("fail 1;", "mark 0 1 2;end a pays 1 if 1=1;end bb pays 1 if 1=2;end cc pays 1 if 1=2;");
+        TrustDesk x = Check.desk("fail 1;", "mark 0 1 2;end a pays 1 if 1=1;end bb pays 1 if 1=2;end cc pays 1 if 1=2;");
         Check.near(x, 1 + 4 + 8, "end nnnn pays 9999 if 1=1 part;");
         x.days(360);
         Check.same("both dead", x.fundOf(0, 5), 2);
-        Check.same("made", carried(x, 0, 0, 0), 0);
+        Check.same("made", Check.carried(x, 0, 0, 0), 0);
         Check.same("the first of them lives", x.endOf(0, 1, 0), 0);
         Check.same("with no failed years", x.endOf(0, 1, 1), 0);
         Check.same("nor a year of death", x.endOf(0, 1, 2), -1);
@@ -367,7 +348,7 @@ public final class SchemesTest {
         x.days(358);
         Check.same("all coin by part", x.coin(0), 0);
         Check.same("entry", x.entry(2, 2), 1);
-        Check.same("made again for the next", carried(x, 0, 0, 0), 0);
+        Check.same("made again for the next", Check.carried(x, 0, 0, 0), 0);
         Check.same("none dead", x.fundOf(0, 5), 0);
         Check.same("three live", x.fundOf(0, 4), 3);
     }
@@ -388,17 +369,17 @@ public final class SchemesTest {
         Check.same("acres", x.fundOf(0, 0), 6);
         x.days(358);
         x.fact(6, 2, 9999);
-        Check.same("all", carried(x, 2, 0, 6), 0);
+        Check.same("all", Check.carried(x, 2, 0, 6), 0);
         Check.same("by the year at hand", x.coin(0), 160 + 48 + 6 * 8 * 5);
         Check.same("no acres", x.fundOf(0, 0), 0);
     }
 
     private static void strikeMade() {
-        TrustDesk x = desk("fail 1;", "mark 1;end a pays 1 if 1=1;end b pays 1 if 1=2;");
+        TrustDesk x = Check.desk("fail 1;", "mark 1;end a pays 1 if 1=1;end b pays 1 if 1=2;");
         x.days(360);
-        Check.same("a living one", carried(x, 3, 0, 0), 0);
+        Check.same("a living one", Check.carried(x, 3, 0, 0), 0);
         Check.same("is struck", x.endOf(0, 0, 0), 2);
-        Check.same("a dead one", carried(x, 3, 0, 1), 0);
+        Check.same("a dead one", Check.carried(x, 3, 0, 1), 0);
         Check.same("is struck too", x.endOf(0, 1, 0), 2);
         Check.same("its year of death stays", x.endOf(0, 1, 2), 0);
         Check.same("both are told", x.fundOf(0, 3), 2);
@@ -410,12 +391,12 @@ public final class SchemesTest {
     }
 
     private static void joinMade() {
-        TrustDesk x = desk("fail 2;", "mark 0 1;end a pays 3 if 1=1;end b pays 0 if 1=2;end c pays 0 if 1=1;",
+        TrustDesk x = Check.desk("fail 2;", "mark 0 1;end a pays 3 if 1=1;end b pays 0 if 1=2;end c pays 0 if 1=1;",
                 "mark 1 2;end d pays 0 if 1=1;trust 2 1;");
-        Check.same("struck", carried(x, 3, 0, 2), 0);
+        Check.same("struck", Check.carried(x, 3, 0, 2), 0);
         x.days(718);
         Check.same("coin of one", x.coin(0), 194);
-        Check.same("joined", carried(x, 1, 0, 1), 0);
+        Check.same("joined", Check.carried(x, 1, 0, 1), 0);
         Check.same("to it", x.fundOf(0, 6), 1);
         Check.same("the other to none", x.fundOf(1, 6), -1);
         Check.same("coin of both", x.coin(1), 394);
@@ -440,24 +421,24 @@ public final class SchemesTest {
         for (char name = 'a'; name < 'g'; name++) {
             six.append("end ").append(name).append(" pays 1 if 1=1;");
         }
-        TrustDesk x = desk("", six.toString(), six.toString(), "mark 1;end z pays 1 if 1=1;");
-        Check.same("twelve", carried(x, 1, 0, 1), 0);
+        TrustDesk x = Check.desk("", six.toString(), six.toString(), "mark 1;end z pays 1 if 1=1;");
+        Check.same("twelve", Check.carried(x, 1, 0, 1), 0);
         Check.same("all of them", x.fundOf(1, 4), 12);
-        Check.same("thirteen", carried(x, 1, 1, 2), 1);
-        Check.same("thirteen the other way", carried(x, 1, 2, 1), 1);
-        Check.same("one struck", carried(x, 3, 1, 7), 0);
-        Check.same("twelve again", carried(x, 1, 2, 1), 0);
+        Check.same("thirteen", Check.carried(x, 1, 1, 2), 1);
+        Check.same("thirteen the other way", Check.carried(x, 1, 2, 1), 1);
+        Check.same("one struck", Check.carried(x, 3, 1, 7), 0);
+        Check.same("twelve again", Check.carried(x, 1, 2, 1), 0);
         Check.same("thirteen are told", x.fundOf(1, 3), 13);
         Check.same("twelve live", x.fundOf(1, 4), 12);
         Check.same("the last one", x.endOf(1, 12, 0), 0);
     }
 
     private static void joinedFundKeeps() {
-        TrustDesk x = desk("", "mark 1 3;end a pays 1 if 1=1;", "mark 1;", "mark 1 3;");
+        TrustDesk x = Check.desk("", "mark 1 3;end a pays 1 if 1=1;", "mark 1;", "mark 1 3;");
         Check.near(x, 8, "end n pays 1 if 1=1;");
         int open = x.propose(2, 0, 1);
         x.vote(open, 0, true);
-        Check.same("joined", carried(x, 1, 0, 1), 0);
+        Check.same("joined", Check.carried(x, 1, 0, 1), 0);
         Check.same("coin", x.coin(0), 0);
         Check.same("acres", x.fundOf(0, 0), 0);
         Check.same("stock", x.fundOf(0, 1), 0);
@@ -477,7 +458,7 @@ public final class SchemesTest {
         Check.same("founder", x.paid(0), 0);
         Check.same("two not joined", x.count(11), 2);
         Check.same("three funds", x.count(4), 3);
-        Check.same("chain", carried(x, 1, 1, 2), 0);
+        Check.same("chain", Check.carried(x, 1, 1, 2), 0);
         Check.same("to which it is joined stays", x.fundOf(0, 6), 1);
         Check.yes("lay for a joined one", x.lay(0, 3));
     }
@@ -489,7 +470,7 @@ public final class SchemesTest {
         Check.fund(x, 500, 60000, "");
         x.trustee(0, 0);
         x.trustee(1, 0);
-        Check.same("joined", carried(x, 1, 1, 0), 0);
+        Check.same("joined", Check.carried(x, 1, 1, 0), 0);
         Check.same("acres at most", x.fundOf(0, 0), 999);
         Check.same("stock at most", x.fundOf(0, 1), 99999);
     }
@@ -507,7 +488,7 @@ public final class SchemesTest {
         x.trustee(1, 0);
         Check.yes("more than the most", x.coin(0) > 1000000000000L);
         long other = 20L * (999 * 9999 + 99999);
-        Check.same("joined", carried(x, 1, 0, 1), 0);
+        Check.same("joined", Check.carried(x, 1, 0, 1), 0);
         long part = other * 1000000 / (1000000000000L + other);
         Check.same("part of the poorer", x.part(1, 1), part);
         Check.same("and of the richer", x.part(1, 0), 1000000 - part);

@@ -328,21 +328,15 @@ public final class YearsTest {
     }
 
     private static void boundsOfSums() {
-        Check.same("each product", asks("9999*9999*9999"), 1000000000);
-        Check.same("then a difference", asks("9999*9999*9999-1"), 999999999);
-        Check.same("a sum", asks("9999*9999*9999+9999-1"), 999999999);
-        Check.same("below", asks("(0-9999)*9999*9999+9999*9999*9999+5"), 5);
-        Check.same("a difference below", asks("(0-9999*9999*9999-9999)+9999*9999*9999"), 0);
-        Check.same("products first", asks("1+2*3"), 7);
-        Check.same("from the left on", asks("10-3-2"), 5);
-        Check.same("brackets", asks("10-(3-2)"), 9);
-        Check.same("figures with noughts", asks("0007*0010"), 70);
-    }
-
-    private static int asks(String sum) {
-        TrustDesk x = new TrustDesk();
-        Check.fund(x, 0, 0, "end a pays " + sum + " if 1=1;");
-        return x.due(0, 0, 0, 0);
+        Check.asks("9999*9999*9999", 1000000000);
+        Check.asks("9999*9999*9999-1", 999999999);
+        Check.asks("9999*9999*9999+9999-1", 999999999);
+        Check.asks("(0-9999)*9999*9999+9999*9999*9999+5", 5);
+        Check.asks("(0-9999*9999*9999-9999)+9999*9999*9999", 0);
+        Check.asks("1+2*3", 7);
+        Check.asks("10-3-2", 5);
+        Check.asks("10-(3-2)", 9);
+        Check.asks("0007*0010", 70);
     }
 
     // promise 26
@@ -375,12 +369,12 @@ public final class YearsTest {
             "[1=1 or 1=2] and 1=1", "not 1=2 and 1=1", "not [1=1 and 1=2]", "[[[[1=1]]]]",
             "maids+1=1", "not not not 1=2", "1=2 and 1=2 or 1=1", "not[1=2]and(1)<2"};
         for (String condition : true1) {
-            Check.same(condition, holds(condition), 1);
+            Check.holds(condition, true);
         }
         String[] false1 = {"2<2", "2>2", "1=2", "not 1=1", "[1=1 or 1=1] and 1=2", "not [1=2 or 1=1]",
             "1=1 and 1=1 and 1=2", "not 1=1 or 1=2", "0-1>0"};
         for (String condition : false1) {
-            Check.same(condition, holds(condition), -2);
+            Check.holds(condition, false);
         }
         TrustDesk x = new TrustDesk();
         Check.fund(x, 0, 0, "end a pays 10*(10*(10*(10*(10*(10*poor)))) if 1=1;");
@@ -392,12 +386,6 @@ public final class YearsTest {
             Check.fund(y, 0, 0, "end a pays " + names[i] + " if " + names[i] + "=77;");
             Check.same(names[i], y.due(0, 0, 0, 0), 77);
         }
-    }
-
-    private static int holds(String condition) {
-        TrustDesk x = new TrustDesk();
-        Check.fund(x, 0, 0, "end a pays 1 if " + condition + ";");
-        return x.due(0, 0, 0, 0);
     }
 
     // promise 27
