@@ -599,6 +599,18 @@ public final class EdgesOfFundsTest {
         Check.same("the least number", y.paid(0), 1);
         Check.same("not the next", y.paid(1), 0);
         Check.same("its half", y.paid(2), 1);
+        TrustDesk z = new TrustDesk();
+        Check.act(z, 0, "days 1;keep 0;");
+        Check.fund(z, 0, 1, "");
+        Check.fund(z, 100, 99999, "end a pays 1 if 1=1;");
+        z.fact(6, 0, 9000);
+        z.trustee(0, 0);
+        z.trustee(1, 0);
+        Check.same("joined", Check.carried(z, 1, 0, 1), 0);
+        Check.same("the least part", z.part(1, 0), 1);
+        z.days(358);
+        Check.same("is a part", z.paid(0), 1);
+        Check.same("so nothing for the other", z.paid(1), 0);
     }
 
     private static void allOfItIsLedBack() {

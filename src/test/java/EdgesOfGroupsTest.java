@@ -169,6 +169,19 @@ public final class EdgesOfGroupsTest {
         z.fact(0, 1, 0);
         Check.same("coin of year 0", z.coin(0), 50);
         Check.same("coin is not taken off as it is asked", z.group(1), 0);
+        TrustDesk w = new TrustDesk();
+        Check.fund(w, 0, 70, "end a pays income-60 if income=70;end b pays coin if coin=60;");
+        Check.fund(w, 0, 50, "end a pays income-45 if income=50;end b pays coin if coin=45;");
+        Check.same("by income of each", w.group(1) + w.group(2), 60 + 45);
+        w.days(360);
+        Check.same("coin of one", w.coin(0), 0);
+        TrustDesk v = new TrustDesk();
+        Check.fund(v, 0, 70, "end a pays coin*2-90 if coin=50 or coin=70;");
+        Check.fund(v, 0, 50, "end a pays coin*2-89 if coin=49;end b pays 1 if 1=1;");
+        v.days(360);
+        Check.same("coin of the first", v.coin(0), 20);
+        Check.same("coin of the second", v.coin(1), 49);
+        Check.same("by coin of each", v.group(1) + 1000 * v.group(2), 70 + 1000 * 40);
     }
 
     private static void idleNoughtAtLeast() {
@@ -239,6 +252,14 @@ public final class EdgesOfGroupsTest {
         Check.same("without it", x.group(5), 300);
         Check.same("judged without it", x.judge(5), 300);
         Check.same("grouped without it", x.grouped(5, 2), 0);
+        TrustDesk y = Check.desk("", "mark 1;", "mark 1;", "mark 1;");
+        Check.same("the first is joined", Check.carried(y, 1, 0, 1), 0);
+        Check.same("with the first", y.group(3), -1);
+        Check.same("judged with the first", y.judge(1), -1);
+        TrustDesk z = Check.desk("", "mark 1;", "mark 1;", "mark 1;");
+        Check.same("the last is joined", Check.carried(z, 1, 2, 0), 0);
+        Check.same("with the last", z.group(6), -1);
+        Check.same("judged with the last", z.judge(4), -1);
     }
 
     private static void eachInOneGroup() {
@@ -286,6 +307,13 @@ public final class EdgesOfGroupsTest {
         Check.act(x, 0, "keep 0;");
         Check.same("keep 0", x.group(3), 30);
         groupsAre(x, 3, 0, 0);
+        TrustDesk y = new TrustDesk();
+        add(y, 10, 0, "1 2");
+        add(y, 0, 4, "1");
+        add(y, 0, 10, "2");
+        add(y, 5, 0, "");
+        Check.same("one without marks beside others", y.group(15), 5);
+        groupsAre(y, 15, 0, 1, 0, 2);
     }
 
     private static void leastIdle() {
@@ -322,6 +350,14 @@ public final class EdgesOfGroupsTest {
         Check.same("idle alike", y.group(31), 25);
         // three at least, as 1, 2 and the last have no mark together: 0 and 2, 1 and 3, 4 is the first such row
         groupsAre(y, 31, 0, 1, 0, 1, 2);
+        TrustDesk z = new TrustDesk();
+        add(z, 5, 0, "1 2");
+        add(z, 5, 0, "1 3");
+        add(z, 5, 0, "2");
+        add(z, 5, 0, "3");
+        Check.same("idle alike too", z.group(15), 20);
+        // 0, 0, 1, 2 would be the first row, but has a group more
+        groupsAre(z, 15, 0, 1, 0, 1);
     }
 
     private static void ofTheseTheFirst() {
@@ -443,6 +479,14 @@ public final class EdgesOfGroupsTest {
         Check.same("year 5", x.why(0, 4, 5, 1), 2);
         Check.same("year 6 as known on day 0", x.why(0, 4, 6, 0), 1);
         Check.same("year 6 as known on day 1", x.why(0, 4, 6, 1), 0);
+        TrustDesk y = new TrustDesk();
+        Check.fund(y, 0, 7, "end a pays 1 if income=7 and coin=0;");
+        Check.fund(y, 0, 9, "end a pays 1 if 1=1 and income=9 and coin=8;");
+        Check.same("by income and coin", y.why(0, 0, 0, 0), -1);
+        Check.same("by income and coin of another", y.why(1, 0, 0, 0), 2);
+        y.days(360);
+        Check.same("by coin as it is now", y.why(0, 0, 0, 0), 1);
+        Check.same("the income of the other one", y.why(1, 0, 0, 0), 2);
     }
 
     private static void whyWhateverTheCondMakesOfIt() {

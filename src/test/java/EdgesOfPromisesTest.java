@@ -264,6 +264,14 @@ public final class EdgesOfPromisesTest {
         Check.same("behind the first five", x.count(8), 25);
         Check.same("a fund by that", x.fund(0, 0), 1);
         Check.same("mark 7", x.fundOf(1, 2), 128);
+        Check.type(x, "mark 77;");
+        x.end(6);
+        Check.same("the second figure is gone", x.fund(0, 0), -2);
+        Check.same("so the end is at fault", x.place(), 6);
+        Check.type(x, "mark 1;trusty");
+        x.end(12);
+        Check.same("the last letter is gone", x.fund(0, 0), -2);
+        Check.same("so the word is trust, and the end at fault", x.place(), 12);
     }
 
     private static void act() {

@@ -45,6 +45,7 @@ public final class EdgesOfSchemesTest {
 
         worthByCoinAndIncome();
         worthAtMost();
+        worthAtMostToTheCoin();
         worthsOfNothing();
         oneWorthOfNothing();
         partsRoundedDown();
@@ -812,6 +813,48 @@ public final class EdgesOfSchemesTest {
         Check.same("half", y.part(1, 0), 500000);
     }
 
+    private static void worthAtMostToTheCoin() {
+        Check.sentence("WORTH ... 1000000000000 at most");
+        // of 250000000000 and 1000000000000 the parts are whole millionths: one coin more or less shows
+        int[][] acres = {{240, 999}, {999, 240}};
+        for (int poor = 0; poor < 2; poor++) {
+            TrustDesk x = new TrustDesk();
+            Check.act(x, 0, "days 1;keep 0;fail 50;gain 20;");
+            for (int fund = 0; fund < 2; fund++) {
+                Check.fund(x, acres[poor][fund], 0,
+                        fund == poor ? "end a pays boys*9999*9999+maids*9999+poor if 1=1;" : "");
+                x.trustee(fund, 0);
+            }
+            x.fact(6, 0, 9999);
+            lead(x, poor, 250000000000L);
+            Check.same("the poor one", x.coin(poor), 250000000000L);
+            Check.yes("the rich one", x.coin(1 - poor) > 1000000000000L);
+            Check.same("joined", Check.carried(x, 1, 1 - poor, poor), 0);
+            Check.same("a fifth", x.part(poor, poor), 200000);
+            Check.same("four fifths", x.part(poor, 1 - poor), 800000);
+        }
+    }
+
+    /** Lets years close until a fund has just so much coin and no rent; its end pays by poor, maids and boys. */
+    private static void lead(TrustDesk x, int fund, long coin) {
+        int[] gains = {20, 5, 1};
+        for (int gain : gains) {
+            Check.act(x, x.count(0), "days 1;keep 0;fail 50;gain " + gain + ";");
+            while (x.coin(fund) * (100 + gain) / 100 < coin || gain == 1 && x.coin(fund) < coin) {
+                x.days(360);
+            }
+        }
+        Check.act(x, x.count(0), "days 1;keep 0;fail 50;");
+        x.fact(6, x.count(1), 0);
+        while (x.coin(fund) > coin) {
+            int pays = (int) Math.min(900000000, x.coin(fund) - coin);
+            x.fact(2, x.count(1), pays / (9999 * 9999));
+            x.fact(1, x.count(1), pays % (9999 * 9999) / 9999);
+            x.fact(0, x.count(1), pays % 9999);
+            x.days(360);
+        }
+    }
+
     private static void worthsOfNothing() {
         Check.sentence("(both 0: WORTHS count as 1)");
         TrustDesk x = new TrustDesk();
@@ -846,6 +889,19 @@ public final class EdgesOfSchemesTest {
         Check.same("of something to nothing", Check.carried(x, 1, 1, 2), 0);
         Check.same("all to it", x.part(2, 1), 1000000);
         Check.same("no part for its own", x.part(2, 2), 0);
+        TrustDesk y = new TrustDesk();
+        Check.act(y, 0, "days 1;keep 0;");
+        Check.fund(y, 1, 0, "");
+        Check.fund(y, 0, 0, "");
+        y.trustee(0, 0);
+        y.trustee(1, 0);
+        y.fact(6, 0, 1);
+        y.fact(6, 1, 0);
+        y.days(360);
+        Check.same("one coin", y.coin(0), 1);
+        Check.same("joined to a fund of nothing", Check.carried(y, 1, 0, 1), 0);
+        Check.same("all parts by one coin", y.part(1, 0), 1000000);
+        Check.same("none of its own", y.part(1, 1), 0);
     }
 
     private static void partsRoundedDown() {
@@ -907,6 +963,17 @@ public final class EdgesOfSchemesTest {
         Check.same("of next to nothing", Check.carried(y, 1, 0, 1), 0);
         Check.same("none of it", y.part(1, 0), 0);
         Check.same("what is left over goes to the one that has some", y.part(1, 1), 1000000);
+        TrustDesk z = new TrustDesk();
+        Check.act(z, 0, "days 1;keep 0;");
+        Check.fund(z, 0, 1, "");
+        Check.fund(z, 100, 0, "");
+        z.fact(6, 0, 7000);
+        z.trustee(0, 0);
+        z.trustee(1, 0);
+        // 20 and 14000000: 1.4 and 999998.5 millionths
+        Check.same("of little", Check.carried(z, 1, 0, 1), 0);
+        Check.same("one is some, and has the one left over", z.part(1, 0), 2);
+        Check.same("the other one", z.part(1, 1), 999998);
     }
 
     private static void joinTakesAcresAndStock() {
@@ -961,6 +1028,7 @@ public final class EdgesOfSchemesTest {
         x.trustee(0, 5);
         x.days(360);
         int open = x.propose(1, 1, 0);
+        int sale = x.propose(2, 0, 1);
         Check.same("joined", Check.carried(x, 1, 0, 1), 0);
         int[] want = {0, 0, 2 + 8, 2, 0, 0, 1, 0, 2, 1};
         for (int what = 0; what < 10; what++) {
@@ -972,6 +1040,8 @@ public final class EdgesOfSchemesTest {
         Check.same("part", x.part(0, 0), 1000000);
         Check.same("of the other none", x.part(0, 1), 0);
         Check.no("a trustee that was", x.vote(open, 5, true));
+        Check.no("for a scheme of its own", x.vote(sale, 5, true));
+        Check.no("the least person too", x.vote(sale, 0, true));
         Check.yes("a trustee of the other one", x.vote(open, 0, true));
         Check.no("no trustee more", x.trustee(0, 6));
         Check.same("the other one has its own trustees", x.fundOf(1, 7), 1);

@@ -49,6 +49,7 @@ public final class EdgesOfTextsTest {
         faultyDeedChangesNothing();
         faultyActChangesNothing();
         faultyNearEndChangesNothing();
+        bracketsOfAFaultyText();
         lastToldHolds();
         withoutTheRule();
 
@@ -245,8 +246,10 @@ public final class EdgesOfTextsTest {
         Check.same("its mark", x.fundOf(0, 2), 8);
         Check.same("all", Check.fund(x, 0, 0, "mark 0 1 2 3 4 5 6 7;"), 1);
         Check.same("all marks", x.fundOf(1, 2), 255);
-        Check.same("one again and again", Check.fund(x, 0, 0, "mark " + "5 ".repeat(190) + ";"), 2);
-        Check.same("that one", x.fundOf(2, 2), 32);
+        Check.same("the least behind another", Check.fund(x, 0, 0, "mark 1 0;"), 2);
+        Check.same("both marks", x.fundOf(2, 2), 3);
+        Check.same("one again and again", Check.fund(x, 0, 0, "mark " + "5 ".repeat(190) + ";"), 3);
+        Check.same("that one", x.fundOf(3, 2), 32);
         Check.faultyDeed("mark 1,2;", 1, 6);
     }
 
@@ -792,6 +795,17 @@ public final class EdgesOfTextsTest {
         Check.same("none", x.count(5), 0);
         Check.same("no nearest", x.nearest(0), -1);
         Check.same("the next number", Check.near(x, 2, "end a pays 1 if 1=1;"), 0);
+    }
+
+    private static void bracketsOfAFaultyText() {
+        Check.sentence("A text with a FAULT changes nothing: its open brackets are not those of the next");
+        TrustDesk x = new TrustDesk();
+        Check.same("four are open", Check.fund(x, 0, 0, "end a pays ((((?"), -2);
+        Check.same("four again", Check.fund(x, 0, 0, "end a pays ((((1)))) if [[[[1=1]]]];"), 0);
+        Check.same("four are open in an act", Check.act(x, 0, "bar sale if [[[["), -2);
+        Check.same("four in an act", Check.act(x, 0, "bar sale if [[[[1=1]]]];"), 1);
+        Check.same("four are open in a near end", Check.near(x, 0, "end a pays 1 if [[[["), -2);
+        Check.same("four in a near end", Check.near(x, 0, "end a pays 1 if [[[[1=1]]]];"), 0);
     }
 
     private static void lastToldHolds() {
